@@ -190,6 +190,7 @@ public final class EntriesTest {
         x.lend(0, 0, 8, false);
         c.taken(x, "the latest", x.undo(0), 1);
         c.is("entry 6 is out", x.sum(0, 1, 2), 5);
+        c.is("its place is empty", x.entry(0, 2, 1), 0);
         c.taken(x, "the one ahead", x.undo(0), 1);
         c.is("entry -4 is out", x.sum(0, 1, 3), 0);
         c.is("its day is open", x.told(0, 9), 2);

@@ -35,6 +35,11 @@ public final class OwnersTest {
         x.join(0, 0, 0, 3, false);
         x.end(1, 1);
         c.taken(x, "both began behind the end", x.close(1), 0);
+        x.end(1, 2);
+        c.refusedAt(x, "one began on the end", x.close(1), 7, 2);
+        x.end(2, 2);
+        x.close(2);
+        c.taken(x, "to day 2", x.close(1), 1);
         x.end(1, 4);
         c.refusedAt(x, "the least one", x.close(1), 7, 0);
         x.end(0, 3);
@@ -48,7 +53,7 @@ public final class OwnersTest {
         x.leaf(1, 3, 0, 0);
         x.end(2, 4);
         x.close(2);
-        c.taken(x, "close", x.close(1), 1);
+        c.taken(x, "close", x.close(1), 2);
     }
 
     private static void waitingToTheLastDay() {
@@ -267,6 +272,8 @@ public final class OwnersTest {
         c.is("seat 0", x.borne(0), 1);
         c.is("seat 1", x.borne(1), 2);
         c.is("seat 2", x.borne(2), 9);
+        c.taken(x, "on 999", x.bear(0, 999, 1011), 3);
+        c.taken(x, "on the last day of seat 3", x.bear(0, 49, 1_000_000_000), 4);
     }
 
     private static void bearingForYears() {

@@ -44,7 +44,8 @@ public final class RulesTest {
             c.refused(x, "v -1", x.term(0, 0, what, -1), 2);
             c.refused(x, "v too great", x.term(0, 0, what, most[what] + 1), 2);
             c.taken(x, "at first 0", x.term(0, 0, what, most[what]), 0);
-            c.taken(x, "was", x.term(0, 0, what, 7), most[what]);
+            c.taken(x, "was", x.term(0, 0, what, 0), most[what]);
+            c.taken(x, "was 0", x.term(0, 0, what, 7), 0);
         }
         c.taken(x, "another seat", x.term(0, 5, 2, 1), 0);
         c.taken(x, "thousandths of any seat", x.term(0, -5, 4, 8), 7);

@@ -12,6 +12,7 @@ public final class SeatsTest {
         leaving();
         dying();
         circles();
+        longCircle();
         c.finish();
     }
 
@@ -202,6 +203,8 @@ public final class SeatsTest {
             x.house(0);
             x.partner(5, n);
         }
+        c.refused(x, "itself, the first", x.join(0, 0, 0, 0, false), 8);
+        c.is("the first", x.circle(0), 0);
         c.refused(x, "itself", x.join(3, 0, 3, 0, false), 8);
         c.is("circle(0)", x.circle(0), 3);
         c.is("circle(1)", x.circle(1), NONE);
@@ -243,5 +246,22 @@ public final class SeatsTest {
         c.is("full", x.told(7, 4), 24);
         c.refused(x, "circle ahead of room", x.join(7, 0, 7, 50, false), 8);
         c.refused(x, "room", x.join(7, 0, 5, 50, false), 9);
+    }
+
+    private static void longCircle() {
+        PartnersBook x = new PartnersBook();
+        int[] order = {4, 7, 0, 2, 6, 1, 3, 5};
+        for (int n = 0; n < 8; n++) {
+            x.house(n);
+            x.partner(5, n);
+        }
+        for (int i = 1; i < 8; i++) {
+            c.taken(x, "owns the next", x.join(order[i], 0, order[i - 1], 10, false), 0);
+        }
+        c.refused(x, "all eight", x.join(order[0], 0, order[7], 10, false), 8);
+        for (int i = 0; i < 8; i++) {
+            c.is("step " + i, x.circle(i), order[i]);
+        }
+        c.is("behind", x.circle(8), NONE);
     }
 }

@@ -15,6 +15,8 @@ public final class YearsTest {
         nobodysGain();
         mends();
         mendsOfThoseWhoLeft();
+        movesOfLaterYears();
+        toTheLastDay();
         c.finish();
     }
 
@@ -57,6 +59,9 @@ public final class YearsTest {
         x.earn(0, 5, 1);
         c.refusedAt(x, "a place is open", x.close(0), 5, 5);
         x.earn(0, 5, 1);
+        x.tear(0, 6);
+        c.refusedAt(x, "the last day is open", x.close(0), 5, 6);
+        x.leaf(0, 6, 0, 0);
         c.taken(x, "close", x.close(0), 0);
         c.is("TO", x.told(0, 1), 6);
         c.is("closed", x.told(0, 3), 1);
@@ -323,7 +328,9 @@ public final class YearsTest {
         c.is("borne", x.account(0, 0, 2), 6);
         c.is("dues", x.account(0, 0, 6), -3);
         c.is("credit", x.account(0, 0, 0), -3);
-        for (int n = 1; n <= 20; n++) {
+        c.taken(x, "most", x.mend(0, 4, 1_000_000_000), 1);
+        c.taken(x, "least", x.mend(0, 4, -1_000_000_000), 2);
+        for (int n = 3; n <= 20; n++) {
             c.taken(x, "mend", x.mend(0, 4, n), n);
         }
         c.refused(x, "21st", x.mend(0, 4, 1), 9);
@@ -361,5 +368,50 @@ public final class YearsTest {
         c.is("hidden went", x.account(0, 0, 1), 0);
         c.is("still one", x.tenure(0, 0, 5), 1);
         c.is("no heir", x.tenure(0, 0, 6), NONE);
+    }
+
+    private static void movesOfLaterYears() {
+        PartnersBook x = new PartnersBook();
+        x.house(0);
+        x.partner(0, 0);
+        x.rule(0, 0);
+        x.join(0, 0, 0, 0, false);
+        x.join(0, 1, 0, 0, false);
+        x.move(0, 0, 0, 1, false);
+        x.move(0, 1, 1, 20, false);
+        x.move(0, 0, 0, 300, false);
+        x.move(0, 1, 2, 4_000, true);
+        x.move(0, 0, 1, 50_000, false);
+        Checks.emptyLeaves(x, 0, 0, 2);
+        long[] first = {301, 50_301, 50_301};
+        long[] second = {0, 20, -3_980};
+        int[] waiting = {3, 1, 0};
+        for (int day = 0; day <= 2; day++) {
+            x.end(0, day);
+            c.taken(x, "close", x.close(0), day);
+            c.is("first credit", x.account(0, 0, 0), first[day]);
+            c.is("second credit", x.account(0, 1, 0), second[day]);
+            c.is("waiting", x.told(0, 6), waiting[day]);
+        }
+    }
+
+    private static void toTheLastDay() {
+        PartnersBook x = new PartnersBook();
+        x.house(900);
+        x.partner(0, 0);
+        x.rule(0, 900);
+        x.term(0, 0, 2, 1);
+        x.join(0, 0, 0, 900, false);
+        x.end(0, 999);
+        Checks.emptyLeaves(x, 0, 900, 998);
+        c.is("999 is open", x.told(0, 9), 999);
+        c.refusedAt(x, "999 is open", x.close(0), 5, 999);
+        Checks.enter(x, 0, 999, 77);
+        c.is("none is open", x.told(0, 9), 1000);
+        c.taken(x, "a hundred days", x.close(0), 0);
+        c.is("days", x.stretch(0, 0, 1), 100);
+        c.is("result", x.stretch(0, 0, 2), 77);
+        c.refused(x, "no day is free", x.rule(0, 999), 3);
+        c.is("none is open behind", x.told(0, 9), 1000);
     }
 }
