@@ -10,6 +10,7 @@ public final class EntriesTest {
         lending();
         undoing();
         undoDepth();
+        undoOfBothSorts();
         c.finish();
     }
 
@@ -232,5 +233,31 @@ public final class EntriesTest {
         }
         c.taken(x, "no more than 60", x.undo(0), 0);
         c.is("five are left", x.told(0, 6), 5);
+    }
+
+    private static void undoOfBothSorts() {
+        PartnersBook x = bookWithPartner();
+        x.join(0, 0, 0, 2, false);
+        for (int day = 2; day < 10; day++) {
+            x.leaf(0, day, 1, 6);
+        }
+        int told = 70;
+        for (int i = 0; i < told; i++) {
+            if (i % 3 == 0) {
+                x.earn(0, 2 + i / 3 % 8, 1);
+            } else {
+                x.move(0, 0, 2, 1, false);
+            }
+        }
+        for (int i = told - 1; i >= told - 60; i--) {
+            c.taken(x, "undo " + i, x.undo(0), 1);
+            int entries = 0;
+            for (int day = 2; day < 10; day++) {
+                entries += (int) x.sum(0, 1, day);
+            }
+            c.is("entries ahead of " + i, entries, (i + 2) / 3);
+            c.is("moves ahead of " + i, x.told(0, 6), i - (i + 2) / 3);
+        }
+        c.taken(x, "no more", x.undo(0), 0);
     }
 }
