@@ -65,7 +65,6 @@ public final class PartnersBook {
     private final Ring ring;
     private final int[] debtParts;
     private int debtOfNobody;
-    private House debtHouse;
     private final long[] sheetRow;
     private int lastStatus;
     private int lastWhere;
@@ -475,7 +474,6 @@ public final class PartnersBook {
             return refuse(BAD_DAY);
         }
         gatherBearers(h, day);
-        debtHouse = h;
         debtOfNobody = (int) shares.shareLoss(debt);
         return accept(keepDebtParts());
     }
@@ -483,13 +481,10 @@ public final class PartnersBook {
     // ---- what is told
 
     public int borne(int t) {
-        if (debtHouse == null) {
-            return 0;
-        }
         if (t == NONE) {
             return debtOfNobody;
         }
-        return t >= 0 && t < debtHouse.tenureCount && t < TENURES ? debtParts[t] : NONE;
+        return t >= 0 && t < TENURES ? debtParts[t] : 0;
     }
 
     public long account(int house, int tenure, int what) {

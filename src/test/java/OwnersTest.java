@@ -1,6 +1,5 @@
 /** Promises 22 (status 7), 24 to 26 and terms VI, VII: houses that own, heirs, hidden sums, old debts. */
 public final class OwnersTest {
-    private static final int NONE = PartnersBook.NONE;
     private static final Checks c = new Checks("OwnersTest");
 
     public static void main(String[] args) {
@@ -258,8 +257,9 @@ public final class OwnersTest {
         c.is("without a word", x.borne(2), 0);
         c.is("with a word", x.borne(3), 23);
         c.is("nobody's", x.borne(-1), 0);
-        c.is("no such tenure", x.borne(4), NONE);
-        c.is("no such number", x.borne(-2), NONE);
+        for (int t : new int[] {4, 5, 23, 24, 25, -2, Integer.MAX_VALUE, Integer.MIN_VALUE}) {
+            c.is("no such tenure " + t, x.borne(t), 0);
+        }
         c.is("nothing is changed", x.account(0, 1, 2), 0);
         c.refused(x, "refused", x.bear(0, 4, 0), 2);
         c.is("the latest that wasn't refused", x.borne(3), 23);
@@ -318,5 +318,11 @@ public final class OwnersTest {
         x.house(0);
         c.refused(x, "another house without rule", x.bear(1, 0, 1), 1);
         c.is("stays", x.borne(0), 2);
+        x.rule(1, 0);
+        c.taken(x, "a house without tenures", x.bear(1, 0, 4), 0);
+        c.is("not the other house's", x.borne(0), 0);
+        c.is("all is nobody's", x.borne(-1), 4);
+        x.join(1, 0, 0, 0, false);
+        c.is("a tenure that came behind the bear", x.borne(0), 0);
     }
 }

@@ -615,7 +615,7 @@ final class PlainBook {
         if (bearOf == null) return 0;
         if (t == -1) return (int) bearNobody;
         T who = t(bearOf.no, t);
-        return who == null ? NONE : (int) (long) bears.getOrDefault(who, 0L);
+        return who == null ? 0 : (int) (long) bears.getOrDefault(who, 0L);
     }
 
     long account(int house, int tenure, int what) {
