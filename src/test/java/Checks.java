@@ -1,3 +1,5 @@
+import java.util.List;
+
 /** Counts the answers that are not the ones that are due. */
 final class Checks {
     private final String name;
@@ -13,6 +15,17 @@ final class Checks {
         if (got != want) {
             wrong++;
             System.out.println(name + ": " + what + " answered " + got + ", due is " + want);
+        }
+    }
+
+    void alike(String what, List<Long> got, List<Long> want) {
+        asked++;
+        for (int i = 0; i < Math.max(got.size(), want.size()); i++) {
+            if (i >= got.size() || i >= want.size() || !got.get(i).equals(want.get(i))) {
+                wrong++;
+                System.out.println(name + ": " + what + ": reading " + i + " differs");
+                return;
+            }
         }
     }
 

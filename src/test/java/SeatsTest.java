@@ -13,6 +13,8 @@ public final class SeatsTest {
         dying();
         circles();
         longCircle();
+        circlesAmongOtherWays();
+        leastNumbers();
         c.finish();
     }
 
@@ -263,5 +265,59 @@ public final class SeatsTest {
             c.is("step " + i, x.circle(i), order[i]);
         }
         c.is("behind", x.circle(8), NONE);
+    }
+
+    private static PartnersBook eightHouses() {
+        PartnersBook x = new PartnersBook();
+        for (int n = 0; n < 8; n++) {
+            x.house(n);
+            x.partner(5, n);
+        }
+        return x;
+    }
+
+    /** Each house of a row owns a part of the next one. */
+    private static void own(PartnersBook x, int... row) {
+        for (int i = 1; i < row.length; i++) {
+            int seat = x.told(row[i], 4);
+            c.taken(x, row[i - 1] + " owns of " + row[i], x.join(row[i], seat, row[i - 1], 10, false), seat);
+        }
+    }
+
+    private static void isCircle(PartnersBook x, int... row) {
+        int seat = x.told(row[0], 4);
+        c.refused(x, "a circle", x.join(row[0], seat, row[row.length - 1], 10, false), 8);
+        for (int i = 0; i <= row.length; i++) {
+            c.is("circle, step " + i, x.circle(i), i < row.length ? row[i] : NONE);
+        }
+    }
+
+    private static void circlesAmongOtherWays() {
+        PartnersBook x = eightHouses();
+        own(x, 7, 0);
+        own(x, 7, 3, 6);
+        own(x, 1, 6);
+        own(x, 7, 2, 4, 6);
+        own(x, 5, 7);
+        isCircle(x, 7, 3, 6);
+        isCircle(x, 5, 7);
+        isCircle(x, 5, 7, 3, 6);
+        isCircle(x, 2, 4, 6);
+        c.taken(x, "no way back", x.join(0, 5, 6, 10, false), 1);
+        isCircle(x, 3, 6, 0);
+    }
+
+    private static void leastNumbers() {
+        PartnersBook x = eightHouses();
+        own(x, 7, 3, 1, 6);
+        own(x, 7, 2, 5, 6);
+        own(x, 7, 4, 0, 6);
+        isCircle(x, 7, 2, 5, 6);
+        own(x, 2, 1);
+        isCircle(x, 7, 2, 1, 6);
+        own(x, 4, 6);
+        isCircle(x, 7, 4, 6);
+        own(x, 7, 6);
+        isCircle(x, 7, 6);
     }
 }

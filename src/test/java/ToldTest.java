@@ -11,6 +11,9 @@ public final class ToldTest {
         sums();
         sheets();
         statusStays();
+        noneSuch();
+        everyNumberOfTheSheet();
+        sheetBesideTheLatestClose();
         c.finish();
     }
 
@@ -195,5 +198,130 @@ public final class ToldTest {
         c.is("where stays", x.where(), 3);
         x.holds(0, 0);
         c.is("where goes with the next call", x.where(), NONE);
+    }
+
+    private static void noneSuch() {
+        PartnersBook x = closedBook();
+        x.end(0, 7);
+        c.refusedAt(x, "open", x.close(0), 5, 3);
+        for (int house : new int[] {Integer.MIN_VALUE, -1, 1, 8, Integer.MAX_VALUE}) {
+            tellsNothing(x, house, 0, 2, 1, 0);
+        }
+        for (int no : new int[] {Integer.MIN_VALUE, -1, 2, 24, Integer.MAX_VALUE}) {
+            for (int what = 0; what < 8; what++) {
+                c.is("account of no tenure", x.account(0, no, what), 0);
+                c.is("fact of no tenure", x.tenure(0, no, what), NONE);
+            }
+            c.is("due of no tenure", x.due(0, 0, no), 0);
+            c.is("due of no stretch", x.due(0, no, 0), 0);
+            for (int what = 0; what < 6; what++) {
+                c.is("no stretch", x.stretch(0, no, what), 0);
+            }
+        }
+        for (int seat : new int[] {Integer.MIN_VALUE, -1, 6, Integer.MAX_VALUE}) {
+            c.is("no seat", x.who(0, seat, 2), NONE);
+        }
+        for (int day : new int[] {Integer.MIN_VALUE, -1, 1000, Integer.MAX_VALUE}) {
+            c.is("who, no day", x.who(0, 2, day), NONE);
+            c.is("entries, no day", x.sum(0, 1, day), 0);
+            c.is("income, no day", x.sum(0, 2, day), 0);
+            c.is("entry, no day", x.entry(0, day, 0), 0);
+        }
+        for (int i : new int[] {Integer.MIN_VALUE, -1, 1, 6, Integer.MAX_VALUE}) {
+            c.is("no entry", x.entry(0, 1, i), 0);
+        }
+        for (int what : new int[] {Integer.MIN_VALUE, -1, 10, Integer.MAX_VALUE}) {
+            c.is("told", x.told(0, what), NONE);
+            c.is("account", x.account(0, 0, what), 0);
+            c.is("tenure", x.tenure(0, 0, what), NONE);
+            c.is("stretch", x.stretch(0, 0, what), 0);
+            c.is("sum", x.sum(0, what, 1), 0);
+        }
+        c.is("account 7", x.account(0, 0, 7), 0);
+        c.is("tenure 8", x.tenure(0, 0, 8), NONE);
+        c.is("stretch 6", x.stretch(0, 0, 6), 0);
+        c.is("sum 4", x.sum(0, 4, 1), 0);
+        for (int i : new int[] {Integer.MIN_VALUE, -1, 0, 8, Integer.MAX_VALUE}) {
+            c.is("no circle", x.circle(i), NONE);
+        }
+        c.is("status stays", x.status(), 5);
+        c.is("where stays", x.where(), 3);
+    }
+
+    private static void tellsNothing(PartnersBook x, int house, int tenure, int seat, int day, int i) {
+        for (int what = 0; what < 10; what++) {
+            c.is("told of no house", x.told(house, what), NONE);
+            c.is("sum of no house", x.sum(house, what, day), 0);
+            c.is("account of no house", x.account(house, tenure, what), 0);
+            c.is("tenure of no house", x.tenure(house, tenure, what), NONE);
+            c.is("stretch of no house", x.stretch(house, i, what), 0);
+        }
+        c.is("who of no house", x.who(house, seat, day), NONE);
+        c.is("due of no house", x.due(house, i, tenure), 0);
+        c.is("entry of no house", x.entry(house, day, i), 0);
+        c.is("status stays", x.status(), 5);
+        c.is("where stays", x.where(), 3);
+    }
+
+    /** 24 tenures, each with a due of its own, and two coins of nobody. */
+    private static PartnersBook fullSheet() {
+        PartnersBook x = new PartnersBook();
+        x.house(0);
+        x.partner(0, 0);
+        x.rule(0, 0);
+        for (int seat = 0; seat < 6; seat++) {
+            x.term(0, seat, 2, 1);
+        }
+        for (int t = 0; t < 24; t++) {
+            x.join(0, t % 6, 0, t, false);
+            x.leave(0, t % 6, t + 1, 1, 0);
+            Checks.enter(x, 0, t, 100 + t);
+        }
+        Checks.enter(x, 0, 24, 2);
+        x.end(0, 24);
+        x.close(0);
+        return x;
+    }
+
+    private static void everyNumberOfTheSheet() {
+        PartnersBook x = fullSheet();
+        c.is("tenures", x.told(0, 4), 24);
+        for (int t = 0; t < 24; t++) {
+            c.taken(x, "the first that isn't alike", x.check(0), t);
+            c.taken(x, "sheet", x.sheet(t, 101 + t), 1);
+            c.taken(x, "still not alike", x.check(0), t);
+            c.taken(x, "sheet", x.sheet(t, 100 + t), 1);
+        }
+        c.taken(x, "nobody's", x.check(0), 24);
+        x.sheet(24, 2);
+        c.taken(x, "all alike", x.check(0), -2);
+        for (int t = 24; t >= 0; t--) {
+            for (long v : new long[] {Long.MIN_VALUE, -1, 0, Long.MAX_VALUE}) {
+                c.taken(x, "sheet", x.sheet(t, v), 1);
+                c.taken(x, "the first", x.check(0), t);
+            }
+        }
+        c.refused(x, "25", x.sheet(25, 0), 2);
+        c.refused(x, "-1", x.sheet(-1, 0), 2);
+        c.taken(x, "still the first", x.check(0), 0);
+    }
+
+    private static void sheetBesideTheLatestClose() {
+        PartnersBook x = closedBook();
+        x.sheet(0, 11);
+        c.taken(x, "alike", x.check(0), -2);
+        x.join(0, 0, 0, 3, false);
+        c.taken(x, "a tenure that came behind the close has no dues", x.check(0), -2);
+        x.end(0, 3);
+        c.refusedAt(x, "a refused close", x.close(0), 5, 3);
+        c.taken(x, "leaves the latest one", x.check(0), -2);
+        x.leaf(0, 3, 0, 0);
+        x.close(0);
+        c.taken(x, "the next close has other dues", x.check(0), 0);
+        x.sheet(0, 0);
+        c.taken(x, "of this close alone", x.check(0), -2);
+        x.house(0);
+        c.refused(x, "another house", x.check(1), 1);
+        c.taken(x, "the sheet is the book's", x.check(0), -2);
     }
 }
