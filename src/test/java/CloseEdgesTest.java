@@ -30,6 +30,7 @@ public final class CloseEdgesTest {
         paidInInstalments();
         heirsAndTheirDays();
         incomeDays();
+        incomeBeyondTheBound();
         incomeOfTwoTenures();
         waiting();
         debtsAndYears();
@@ -671,6 +672,27 @@ public final class CloseEdgesTest {
             closeTo(x, 1, 0);
             c.is("income of 999, closed to " + last, x.sum(1, 2, 999), last == 998 ? 9 : 0);
             c.is("loose, closed to " + last, x.sum(1, 0, 0), last == 998 ? 0 : 9);
+        }
+    }
+
+    /** The bound of LOOSE needs 1,000 calls, so this run is longer than any that is promised. */
+    private static void incomeBeyondTheBound() {
+        for (int sign : new int[] {1, -1}) {
+            PartnersBook x = owned(900);
+            closeOwner(x, 999);
+            for (int i = 0; i < 1_000; i++) {
+                x.loose(1, sign * MOST);
+            }
+            long bound = sign * 1_000_000_000_000L;
+            c.is("at the bound", x.sum(1, 0, 0), bound);
+            x.mend(0, 0, sign * 9);
+            closeTo(x, 1, 0);
+            c.is("beyond the bound", x.sum(1, 0, 0), bound + sign * 9);
+            c.refused(x, "none more", x.loose(1, 0), 9);
+            c.refused(x, "still beyond", x.loose(1, -8 * sign), 9);
+            c.is("refused", x.sum(1, 0, 0), bound + sign * 9);
+            c.taken(x, "back to the bound", x.loose(1, -9 * sign), 1);
+            c.is("at the bound again", x.sum(1, 0, 0), bound);
         }
     }
 
