@@ -19,6 +19,9 @@ public final class CloseEdgesTest {
         interestFromTheDayOfAMove();
         interestOfDaysWithoutCredit();
         interestByStretches();
+        movesOfLaterYears();
+        manyStretches();
+        fewerThanAhead();
         sumsToTheCoin();
         gainsAndLossesOfOne();
         nothingLeft();
@@ -327,6 +330,96 @@ public final class CloseEdgesTest {
         c.is("first stretch", x.due(0, 0, 0), 1);
         c.is("second stretch", x.due(0, 1, 0), 1);
         c.is("the dues of the first are no credit of the second", x.account(0, 0, 0), 1_002);
+    }
+
+    private static void movesOfLaterYears() {
+        PartnersBook x = book(0);
+        x.term(0, 0, 4, 360);
+        seatAll(x, 0);
+        for (int day = 98; day <= 102; day++) {
+            x.move(0, 0, day, 1_000, false);
+        }
+        closeTo(x, 0, 0);
+        c.is("a year of one day", x.due(0, 0, 0), 0);
+        closeTo(x, 99, 3);
+        c.is("two days and one", x.due(0, 0, 0), 3);
+        c.is("three moves are later", x.told(0, 6), 3);
+        closeTo(x, 102, 15);
+        c.is("3,003 and 4,003 and 5,003", x.due(0, 0, 0), 12);
+        PartnersBook y = book(0);
+        y.term(0, 0, 4, 360);
+        seatAll(y, 0);
+        y.move(0, 0, 99, 1_000, false);
+        y.move(0, 0, 100, 1_000, false);
+        closeTo(y, 99, 1);
+        c.is("the last of a hundred days", y.due(0, 0, 0), 1);
+    }
+
+    private static void manyStretches() {
+        PartnersBook x = book(0, 0, 0, 0, 0, 0);
+        seatAll(x, 0);
+        for (int n = 0; n < 12; n++) {
+            x.rule(0, n);
+            weigh(x, 2, 1 + n, 1, 1, 1, 1, 1);
+            weigh(x, 3, 1, 1, 1, 1, 1, 1 + n);
+        }
+        for (int n = 0; n < 12; n++) {
+            // six coins of LOOSE go to the first six stretches: each has 5 or -5 then
+            Checks.enter(x, 0, n, (n % 2 == 0 ? 5 : -5) - (n < 6 ? 1 : 0));
+        }
+        closeTo(x, 11, 6);
+        c.is("stretches", x.told(0, 8), 12);
+        for (int n = 0; n < 12; n++) {
+            // 5 * (1 + n) / (6 + n) goes to the heavy seat; the rests of the others are alike
+            int heavy = n % 2 == 0 ? 0 : 5;
+            int weight = 5 * (1 + n);
+            int total = 6 + n;
+            int coins = 5 - weight / total;
+            boolean heavyFirst = weight % total > 5 || weight % total == 5 && heavy == 0;
+            int heavyPart = weight / total + (heavyFirst && coins > 0 ? 1 : 0);
+            int left = 5 - heavyPart;
+            for (int t = 0; t < 6; t++) {
+                int order = heavy == 0 ? t - 1 : t;
+                int part = t == heavy ? heavyPart : order < left ? 1 : 0;
+                c.is("due of " + t + " in " + n, x.due(0, n, t), n % 2 == 0 ? part : -part);
+            }
+            c.is("nobody's of " + n, x.stretch(0, n, 3), 0);
+        }
+    }
+
+    /** What a greater cut, a greater close or a longer row told is gone with the next one. */
+    private static void fewerThanAhead() {
+        PartnersBook x = book(0, 0, 0, 0, 0, 0);
+        weigh(x, 2, 1, 1, 1, 1, 1, 1);
+        weigh(x, 3, 1, 1, 1, 1, 1, 1);
+        x.join(0, 0, 0, 0, false);
+        x.join(0, 1, 1, 0, false);
+        for (int seat = 2; seat < 6; seat++) {
+            x.join(0, seat, seat, seat, true);
+        }
+        c.taken(x, "six bear", x.bear(0, 0, 18), 6);
+        c.taken(x, "two have it", x.hidden(0, 0, 7), 7);
+        long[] hidden = {4, 3, 0, 0, 0, 0};
+        for (int t = 0; t < 6; t++) {
+            c.is("hidden of " + t, x.account(0, t, 1), hidden[t]);
+            c.is("still borne by " + t, x.borne(t), 3);
+        }
+        x.leave(0, 5, 5 + 1, 1, 0);
+        closeTo(x, 5, 60);
+        c.is("stretches", x.told(0, 8), 5);
+        closeTo(x, 6, 5);
+        c.is("one stretch", x.told(0, 8), 1);
+        dues(x, "five", 0, 1, 1, 1, 1, 1, 0);
+        for (int i = 1; i < 6; i++) {
+            for (int what = 0; what < 6; what++) {
+                c.is("no stretch " + i, x.stretch(0, i, what), 0);
+            }
+            dues(x, "no stretch", i, 0, 0, 0, 0, 0, 0);
+        }
+        c.taken(x, "a debt of five", x.bear(0, 5, 4), 4);
+        c.is("the earlier ones", x.borne(3), 1);
+        c.is("not the fifth", x.borne(4), 0);
+        c.is("not who left for no years", x.borne(5), 0);
     }
 
     private static void sumsToTheCoin() {
