@@ -815,7 +815,7 @@ public final class PartnersBook {
         }
 
         private static boolean isTerm(int seat, int what) {
-            return isSeat(seat) && what >= 0 && what < SEAT_TERMS;
+            return seat >= 0 && seat < SEATS && what >= 0 && what < SEAT_TERMS;
         }
 
         int termOf(int seat, int what) {
@@ -837,7 +837,7 @@ public final class PartnersBook {
             if (thousandths != other.thousandths) {
                 return true;
             }
-            for (int i = 0; i < terms.length; i++) {
+            for (int i = 0; i < terms.length && i < other.terms.length; i++) {
                 if (terms[i] != other.terms[i]) {
                     return true;
                 }
@@ -953,8 +953,8 @@ public final class PartnersBook {
         }
 
         void noteEntry(int day) {
-            days[next] = day;
-            next = next + 1 < UNDOS ? next + 1 : 0;
+            days[Math.floorMod(next, UNDOS)] = day;
+            next++;
             count = Math.min(UNDOS, count + 1);
         }
 
@@ -963,9 +963,9 @@ public final class PartnersBook {
         }
 
         int takeLatest() {
-            next = next > 0 ? next - 1 : UNDOS - 1;
+            next--;
             count = Math.max(0, count - 1);
-            return days[next];
+            return days[Math.floorMod(next, UNDOS)];
         }
     }
 
@@ -1611,9 +1611,10 @@ public final class PartnersBook {
         }
 
         private int nextTowards(House[] houses, int count, int at) {
-            for (int n = 0; n < count && n < HOUSES; n++) {
+            int nearer = at >= 0 && at < HOUSES ? far[at] - 1 : 0;
+            for (int n = 0; n < count && n < HOUSES && nearer > 0; n++) {
                 House owned = houses[n];
-                if (owned != null && at >= 0 && owned.isOwnedBy(at) && far[n] == far[at] - 1 && far[n] > 0) {
+                if (owned != null && far[n] == nearer && owned.isOwnedBy(at)) {
                     return n;
                 }
             }

@@ -5,8 +5,10 @@ import java.lang.reflect.Method;
 import java.lang.reflect.Modifier;
 import java.nio.file.Files;
 import java.nio.file.Path;
+import java.util.ArrayList;
 import java.util.Arrays;
 import java.util.HashSet;
+import java.util.List;
 import java.util.Set;
 import java.util.TreeSet;
 import java.util.regex.Matcher;
@@ -25,12 +27,21 @@ public final class FaceTest {
         + " int status() int where()";
     private static final String FORBIDDEN = "\\b(throw|throws|try|catch|finally|synchronized|assert|protected|import static"
         + "|Object|Short|Byte|Double|Float|Character|System\\.out|System\\.err|\\w+Exact)\\b|->|::|@";
+    private static final String LIBRARY = "Math\\.(abs|min|max|floorMod|floorDiv)|Arrays\\.(fill|copyOf|copyOfRange)"
+        + "|System\\.arraycopy";
+    private static final Set<String> STATIC_TYPES = Set.of("int", "long", "boolean", "char", "class java.lang.String",
+        "class [I", "class [J", "class [C", "class [B");
     private static final Checks c = new Checks("FaceTest");
 
     public static void main(String[] args) throws IOException {
+        String text = Files.readString(Path.of("src/main/java/PartnersBook.java"));
+        String bare = text.replaceAll("(?s)/\\*.*?\\*/", "").replaceAll("//[^\n]*", "");
         face();
         nested();
-        words();
+        statics();
+        words(text, bare);
+        library(bare);
+        loops(bare);
         c.finish();
     }
 
@@ -74,20 +85,53 @@ public final class FaceTest {
         c.is("at most twelve classes", inside.length + 1 <= 12 ? 1 : 0, 1);
         for (Class<?> k : inside) {
             c.is(k + " is static", Modifier.isStatic(k.getModifiers()) ? 1 : 0, 1);
-            int fields = 0;
-            for (Field f : k.getDeclaredFields()) {
-                fields += Modifier.isStatic(f.getModifiers()) ? 0 : 1;
-            }
-            c.is(k + " has some twenty fields", fields <= 20 ? 1 : 0, 1);
             for (Method m : k.getDeclaredMethods()) {
                 c.is(m + " has at most seven parameters", m.getParameterCount() <= 7 ? 1 : 0, 1);
             }
         }
     }
 
-    private static void words() throws IOException {
-        String text = Files.readString(Path.of("src/main/java/PartnersBook.java"));
-        String bare = text.replaceAll("(?s)/\\*.*?\\*/", "").replaceAll("//[^\n]*", "");
+    private static void statics() {
+        List<Class<?>> all = new ArrayList<>(Arrays.asList(PartnersBook.class.getDeclaredClasses()));
+        all.add(PartnersBook.class);
+        for (Class<?> k : all) {
+            int fields = 0;
+            for (Field f : k.getDeclaredFields()) {
+                boolean isStatic = Modifier.isStatic(f.getModifiers());
+                fields += isStatic ? 0 : 1;
+                c.is(f + " is final, of a told type", !isStatic || Modifier.isFinal(f.getModifiers())
+                    && STATIC_TYPES.contains(f.getType().toString()) ? 1 : 0, 1);
+            }
+            c.is(k + " has some twenty fields", fields <= 20 ? 1 : 0, 1);
+        }
+    }
+
+    /** No library but what LANGUAGE.md lists, and none of its texts and lists, which the class doesn't need. */
+    private static void library(String bare) {
+        Matcher m = Pattern.compile("\\b([A-Z]\\w*[a-z]\\w*)\\.\\w+").matcher(bare);
+        while (m.find()) {
+            c.is(m.group() + " is in the library", m.group().matches(LIBRARY) ? 1 : 0, 1);
+        }
+        m = Pattern.compile("(?m)^import .*$").matcher(bare);
+        while (m.find()) {
+            c.is(m.group(), m.group().equals("import java.util.Arrays;") ? 1 : 0, 1);
+        }
+        c.is("texts", bare.indexOf('"'), -1);
+        c.is("package", bare.indexOf("package "), -1);
+        c.is("static blocks", bare.replaceAll("\\s+", " ").indexOf("static {"), -1);
+    }
+
+    /** Each loop is a counter against a bound. */
+    private static void loops(String bare) {
+        c.is("other loops", Pattern.compile("\\b(while|do)\\b").matcher(bare).find() ? 1 : 0, 0);
+        Matcher m = Pattern.compile("\\bfor \\(.*").matcher(bare);
+        while (m.find()) {
+            boolean counts = m.group().matches("for \\(int (\\w+) = [^;]+; \\1 <=? [^;]+; \\1\\+\\+\\) \\{");
+            c.is("a counter against a bound: " + m.group(), counts ? 1 : 0, 1);
+        }
+    }
+
+    private static void words(String text, String bare) {
         Matcher m = Pattern.compile(FORBIDDEN).matcher(bare);
         c.is("a forbidden word" + (m.find() ? ": " + m.group() : ""), m.reset().find() ? 1 : 0, 0);
         c.is("signs 1 to 127", text.chars().allMatch(sign -> sign > 0 && sign < 128) ? 1 : 0, 1);
